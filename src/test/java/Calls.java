@@ -3,12 +3,17 @@ final class Calls {
     private Calls() {
     }
 
-    /** Answers a number, true or false, or throws. and the exception's name. */
+    /**
+     * Answers a number, true or false, or throws. and the exception's name. What the library throws
+     * in the class's stead bears the library's name too, as the class is to throw by itself.
+     */
     static String answer(MapRevisions map, String name, int... a) {
         try {
             return String.valueOf(call(map, name, a));
         } catch (RuntimeException thrown) {
-            return "throws." + thrown.getClass().getSimpleName();
+            StackTraceElement[] from = thrown.getStackTrace();
+            boolean own = from.length > 0 && from[0].getClassName().startsWith("MapRevisions");
+            return "throws." + thrown.getClass().getSimpleName() + (own ? "" : " from the library");
         }
     }
 

@@ -1,5 +1,3 @@
-import java.util.Arrays;
-
 /**
  * Runs of calls written as texts, one call a line or several with ; between them:
  *
@@ -14,14 +12,7 @@ import java.util.Arrays;
  * and their like stand for the numbers that the document gives them.
  */
 final class Script {
-    private static final String[] WORDS = {
-        "POINT", "0", "WAY", "1", "RELATION", "2",
-        "GONE", "-1", "OLD", "-2", "UNLIKE", "-3", "RING", "-4", "USED", "-5",
-        "NO_INDEX", "throws.IndexOutOfBoundsException",
-        "NO_ARGUMENT", "throws.IllegalArgumentException",
-        "NO_STATE", "throws.IllegalStateException",
-        "NO_ELEMENT", "throws.NoSuchElementException",
-    };
+    private static final int MOST_CALLS = 512;
 
     private int runs = 0;
     private int checks = 0;
@@ -31,13 +22,34 @@ final class Script {
     void run(String title, String text) {
         runs++;
         MapRevisions map = new MapRevisions();
-        for (String line : text.split("\n")) {
-            String told = line.replaceFirst("#.*", "");
-            for (String call : told.split(";")) {
-                if (!call.isBlank()) {
-                    callTimes(title, map, call.strip());
-                }
-            }
+        int made = 0;
+        for (Call call : Call.read(text)) {
+            made++;
+            check(title, call, call.answer(map));
+        }
+        if (made > MOST_CALLS) {
+            due(title + ": calls of one object, at most " + MOST_CALLS, made, MOST_CALLS);
+        }
+    }
+
+    /** Makes each call of a text on a new object behind the setup: it is refused and changes nothing. */
+    void refused(String title, String setup, String calls) {
+        for (Call call : Call.read(calls)) {
+            boolean refusal = call.want() != null
+                    && (call.want().startsWith("throws.") || call.want().startsWith("-"));
+            due(title + ": " + call.told() + " is told as refused", refusal, true);
+        }
+        unchanged(title, setup, calls);
+    }
+
+    /** Makes each call of a text on a new object behind the setup: it changes nothing. */
+    void unchanged(String title, String setup, String calls) {
+        run(title, setup);
+        String state = State.after(setup);
+        for (Call call : Call.read(calls)) {
+            run(title, setup + "\n" + call.told());
+            String then = State.after(setup + "\n" + call.told());
+            due(title + ": what is changed by " + call.told(), firstUnlike(then, state), "nothing");
         }
     }
 
@@ -57,37 +69,22 @@ final class Script {
         }
     }
 
-    private void callTimes(String title, MapRevisions map, String told) {
-        int times = 1;
-        String call = told;
-        if (told.matches("[0-9]+x .*")) {
-            times = Integer.parseInt(told.substring(0, told.indexOf('x')));
-            call = told.substring(told.indexOf('x') + 1).strip();
-        }
-        for (int i = 0; i < times; i++) {
-            callOnce(title, map, call);
-        }
-    }
-
-    private void callOnce(String title, MapRevisions map, String told) {
-        String[] parts = told.split("->");
-        String[] words = parts[0].strip().split(" +");
-        int[] arguments = Arrays.stream(words).skip(1).map(Script::plain)
-                .mapToInt(Integer::parseInt).toArray();
-        String got = Calls.answer(map, words[0], arguments);
-        if (parts.length == 2) {
-            due(title + ": " + told, got, plain(parts[1].strip()));
+    private void check(String title, Call call, String got) {
+        if (call.want() != null) {
+            due(title + ": " + call.told(), got, call.want());
         } else if (got.startsWith("throws.") || got.startsWith("-")) {
-            due(title + ": " + told, got, "no refusal and no exception");
+            due(title + ": " + call.told(), got, "no refusal and no exception");
         }
     }
 
-    private static String plain(String word) {
-        for (int i = 0; i < WORDS.length; i += 2) {
-            if (WORDS[i].equals(word)) {
-                return WORDS[i + 1];
+    private static String firstUnlike(String got, String want) {
+        String[] gotLines = got.split("\n");
+        String[] wantLines = want.split("\n");
+        for (int i = 0; i < Math.min(gotLines.length, wantLines.length); i++) {
+            if (!gotLines[i].equals(wantLines[i])) {
+                return gotLines[i] + ", which was " + wantLines[i];
             }
         }
-        return word;
+        return gotLines.length == wantLines.length ? "nothing" : "how many rows there are";
     }
 }
